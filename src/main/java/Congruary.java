@@ -1,0 +1,1149 @@
+import java.util.Arrays;
+import java.util.NoSuchElementException;
+
+/** A solver for equalities of functions, differences of whole numbers and arrays. */
+public final class Congruary {
+    private static final int FUNCTIONS = 4;
+    private static final int FUNCTIONS_WITH_ONE = 2;
+    private static final int MOST_FRAMES = 6;
+    private static final int FARTHEST = 20;
+
+    private final Table table = new Table();
+    private final Statements statements = new Statements();
+    private final Answers answers = new Answers(table, statements);
+    private final Model model = new Model(table, statements, answers.numbers);
+    private final int[] frameTerms = new int[MOST_FRAMES];
+    private final int[] frameAtoms = new int[MOST_FRAMES];
+    private final int[] frameClauses = new int[MOST_FRAMES];
+    private final int[] frameRules = new int[MOST_FRAMES];
+    private int frames;
+
+    public Congruary() {
+    }
+
+    // ---- terms and atoms
+
+    public int constant() {
+        if (table.isFull()) throw new IllegalStateException();
+        answers.forget();
+        return table.add('c', Table.NONE, Table.NONE, Table.NONE, Table.NONE);
+    }
+
+    public int array() {
+        if (table.isFull()) throw new IllegalStateException();
+        answers.forget();
+        return table.add('a', Table.NONE, Table.NONE, Table.NONE, Table.NONE);
+    }
+
+    public int apply(int function, int first, int second) {
+        if (function < 0 || function >= FUNCTIONS) throw new IllegalArgumentException();
+        boolean withOne = function < FUNCTIONS_WITH_ONE;
+        if (withOne && second != Table.NONE) throw new IllegalArgumentException();
+        if (!table.isValue(first)) throw new NoSuchElementException();
+        if (!withOne && !table.isValue(second)) throw new NoSuchElementException();
+        int there = table.find('f', function, first, second, Table.NONE);
+        if (there != Table.NONE) return there;
+        if (table.isFull()) throw new IllegalStateException();
+        answers.forget();
+        return table.add('f', function, first, second, Table.NONE);
+    }
+
+    public int read(int array, int index) {
+        if (!table.isArray(array) || !table.isValue(index)) throw new NoSuchElementException();
+        int there = table.find('r', Table.NONE, array, index, Table.NONE);
+        if (there != Table.NONE) return there;
+        if (table.isFull()) throw new IllegalStateException();
+        answers.forget();
+        return table.add('r', Table.NONE, array, index, Table.NONE);
+    }
+
+    public int write(int array, int index, int value) {
+        if (!table.isArray(array)) throw new NoSuchElementException();
+        if (!table.isValue(index) || !table.isValue(value)) throw new NoSuchElementException();
+        int there = table.find('w', Table.NONE, array, index, value);
+        if (there != Table.NONE) return there;
+        if (table.isFull()) throw new IllegalStateException();
+        answers.forget();
+        return table.add('w', Table.NONE, array, index, value);
+    }
+
+    public int terms() {
+        return table.count;
+    }
+
+    public char kindOf(int term) {
+        if (!table.isTerm(term)) throw new NoSuchElementException();
+        return table.kinds[term];
+    }
+
+    public int equal(int first, int second) {
+        if (!table.isValue(first) || !table.isValue(second)) throw new NoSuchElementException();
+        int fact = Fact.same(first, second);
+        int there = statements.findAtom(fact);
+        if (there >= 0) return there;
+        if (statements.hasAllAtoms()) throw new IllegalStateException();
+        return statements.addAtom(fact);
+    }
+
+    public int atMost(int first, int second, int most) {
+        if (!table.isValue(first) || !table.isValue(second)) throw new NoSuchElementException();
+        if (most < -FARTHEST || most > FARTHEST) throw new IllegalArgumentException();
+        int fact = Fact.within(first, second, most);
+        int there = statements.findAtom(fact);
+        if (there >= 0) return there;
+        if (statements.hasAllAtoms()) throw new IllegalStateException();
+        return statements.addAtom(fact);
+    }
+
+    public int atoms() {
+        return statements.atoms;
+    }
+
+    // ---- clauses, rules, frames
+
+    public int clause(int first, int second, int third) {
+        if (!statements.isLiteral(first)) throw new NoSuchElementException();
+        if (second != Statements.NONE && !statements.isLiteral(second)) throw new NoSuchElementException();
+        if (third != Statements.NONE && !statements.isLiteral(third)) throw new NoSuchElementException();
+        if (statements.hasAllClauses()) throw new IllegalStateException();
+        answers.forget();
+        return statements.addClause(first, second, third);
+    }
+
+    public int clauses() {
+        return statements.clauses;
+    }
+
+    public int rule(char kind, int function) {
+        boolean forOne = kind == 'i' || kind == 's' || kind == 'm';
+        if (!forOne && kind != 'c') throw new IllegalArgumentException();
+        if (function < 0 || function >= FUNCTIONS) throw new IllegalArgumentException();
+        if (forOne != function < FUNCTIONS_WITH_ONE) throw new IllegalArgumentException();
+        if (statements.hasAllRules()) throw new IllegalStateException();
+        answers.forget();
+        return statements.addRule(kind, function);
+    }
+
+    public int push() {
+        if (frames >= MOST_FRAMES) throw new IllegalStateException();
+        frameTerms[frames] = table.count;
+        frameAtoms[frames] = statements.atoms;
+        frameClauses[frames] = statements.clauses;
+        frameRules[frames] = statements.rules;
+        frames++;
+        return frames;
+    }
+
+    public int pop() {
+        if (frames <= 0) throw new IllegalStateException();
+        frames--;
+        table.count = frameTerms[frames];
+        statements.atoms = frameAtoms[frames];
+        statements.clauses = frameClauses[frames];
+        statements.rules = frameRules[frames];
+        answers.forget();
+        return statements.clauses;
+    }
+
+    // ---- answers and explanations
+
+    public boolean check() {
+        return answers.findInterpretation();
+    }
+
+    public int core() {
+        if (answers.findInterpretation()) throw new IllegalStateException();
+        return Integer.bitCount(answers.findCore());
+    }
+
+    public int coreAt(int index) {
+        if (answers.findInterpretation()) throw new IllegalStateException();
+        int clauses = answers.findCore();
+        if (index < 0 || index >= Integer.bitCount(clauses)) throw new IndexOutOfBoundsException();
+        return numberInSet(clauses, index);
+    }
+
+    public boolean follows(int literal) {
+        if (!statements.isLiteral(literal)) throw new NoSuchElementException();
+        return answers.isImplied(literal);
+    }
+
+    public int reasons(int literal) {
+        if (!statements.isLiteral(literal)) throw new NoSuchElementException();
+        if (!answers.isImplied(literal)) throw new IllegalStateException();
+        return Integer.bitCount(answers.findReasons(literal));
+    }
+
+    public int reasonAt(int literal, int index) {
+        if (!statements.isLiteral(literal)) throw new NoSuchElementException();
+        if (!answers.isImplied(literal)) throw new IllegalStateException();
+        int clauses = answers.findReasons(literal);
+        if (index < 0 || index >= Integer.bitCount(clauses)) throw new IndexOutOfBoundsException();
+        return numberInSet(clauses, index);
+    }
+
+    public int bound(int first, int second) {
+        if (!table.isValue(first) || !table.isValue(second)) throw new NoSuchElementException();
+        if (!answers.findInterpretation()) throw new IllegalStateException();
+        int most = answers.findBound(first, second);
+        if (most > Answers.GREATEST_BOUND) throw new UnsupportedOperationException();
+        return most;
+    }
+
+    // ---- classes and the model
+
+    public int classOf(int term) {
+        if (!table.isValue(term)) throw new NoSuchElementException();
+        if (!answers.findInterpretation()) throw new IllegalStateException();
+        answers.findClasses();
+        return answers.leaders[term];
+    }
+
+    public int classes() {
+        if (!answers.findInterpretation()) throw new IllegalStateException();
+        answers.findClasses();
+        int count = 0;
+        for (int term = 0; term < table.count; term++) {
+            if (table.isValue(term) && answers.leaders[term] == term) count++;
+        }
+        return count;
+    }
+
+    public int valueOf(int term) {
+        if (!table.isValue(term)) throw new NoSuchElementException();
+        if (!answers.findModel()) throw new IllegalStateException();
+        return answers.numbers[term];
+    }
+
+    public int functionAt(int function, int first, int second) {
+        if (function < 0 || function >= FUNCTIONS) throw new IllegalArgumentException();
+        if (!answers.findModel()) throw new IllegalStateException();
+        return model.ofFunction(function, first, second);
+    }
+
+    public int entry(int array, int at) {
+        if (!table.isArray(array)) throw new NoSuchElementException();
+        if (!answers.findModel()) throw new IllegalStateException();
+        return model.ofArray(array, at);
+    }
+
+    public boolean isTrue(int literal) {
+        if (!statements.isLiteral(literal)) throw new NoSuchElementException();
+        if (!answers.findModel()) throw new IllegalStateException();
+        return model.makesTrue(literal);
+    }
+
+    // ---- figures
+
+    public long trueLiterals() {
+        if (!answers.findModel()) throw new IllegalStateException();
+        long count = 0;
+        for (int clause = 0; clause < statements.clauses; clause++) count += model.trueIn(clause);
+        return count;
+    }
+
+    public float coreShare() {
+        if (answers.findInterpretation()) throw new IllegalStateException();
+        // Without clauses everything can be satisfied, so that a core means that there are some.
+        if (statements.clauses <= 0) return 0;
+        return (float) Integer.bitCount(answers.findCore()) / (float) statements.clauses;
+    }
+
+    public double meanValue() {
+        if (!answers.findModel()) throw new IllegalStateException();
+        long sum = 0;
+        int values = 0;
+        for (int term = 0; term < table.count; term++) {
+            if (table.isValue(term)) {
+                sum += answers.numbers[term];
+                values++;
+            }
+        }
+        if (values == 0) throw new ArithmeticException();
+        return (double) sum / (double) values;
+    }
+
+    public boolean isSound() {
+        if (!answers.findInterpretation()) return answers.isContrary(answers.findCore());
+        answers.findModel();
+        return model.keepsClauses() && model.keepsRules() && model.keepsTerms();
+    }
+
+    /** The number at an index in a set of numbers that are given as bits. */
+    private static int numberInSet(int set, int index) {
+        int rest = set;
+        for (int step = 0; step < index; step++) rest &= rest - 1;
+        return Integer.numberOfTrailingZeros(rest);
+    }
+
+    /** What can be said of two terms, packed into one int, so that lists of facts are lists of numbers. */
+    private static final class Fact {
+        static final int NONE = -1;
+        static final int WITHIN = 0;
+        static final int SAME = 1;
+        static final int APART = 2;
+        private static final int SORT_AT = 18;
+        private static final int LEFT_AT = 14;
+        private static final int RIGHT_AT = 10;
+        private static final int TERM_BITS = 15;
+        private static final int MOST_BITS = 1023;
+        private static final int MOST_OF_ZERO = 512;
+
+        /** That the left term less the right one is at most a number. */
+        static int within(int left, int right, int most) {
+            return WITHIN << SORT_AT | left << LEFT_AT | right << RIGHT_AT | most + MOST_OF_ZERO;
+        }
+
+        static int same(int left, int right) {
+            return SAME << SORT_AT | left << LEFT_AT | right << RIGHT_AT;
+        }
+
+        static int apart(int left, int right) {
+            return APART << SORT_AT | left << LEFT_AT | right << RIGHT_AT;
+        }
+
+        static int contrary(int fact) {
+            int sort = sort(fact);
+            if (sort == SAME) return apart(left(fact), right(fact));
+            if (sort == APART) return same(left(fact), right(fact));
+            return within(right(fact), left(fact), -most(fact) - 1);
+        }
+
+        static int sort(int fact) {
+            return fact >> SORT_AT;
+        }
+
+        static int left(int fact) {
+            return fact >> LEFT_AT & TERM_BITS;
+        }
+
+        static int right(int fact) {
+            return fact >> RIGHT_AT & TERM_BITS;
+        }
+
+        static int most(int fact) {
+            return (fact & MOST_BITS) - MOST_OF_ZERO;
+        }
+
+        /** Whether a fact is true if its left term less its right one is a number. */
+        static boolean isTrueFor(int fact, int difference) {
+            int sort = fact >> SORT_AT;
+            if (sort == WITHIN) return difference <= (fact & MOST_BITS) - MOST_OF_ZERO;
+            return difference == 0 == (sort == SAME);
+        }
+    }
+
+    /** The terms. What a kind of term does not have is NONE. */
+    private static final class Table {
+        static final int MOST = 14;
+        static final int NONE = -1;
+
+        final char[] kinds = new char[MOST];
+        final int[] functions = new int[MOST];
+        /** The first argument, or the array that is read or written. */
+        final int[] firsts = new int[MOST];
+        /** The second argument, or the index. */
+        final int[] seconds = new int[MOST];
+        final int[] tolds = new int[MOST];
+        int count;
+
+        boolean isFull() {
+            return count >= MOST;
+        }
+
+        boolean isTerm(int term) {
+            return term >= 0 && term < count;
+        }
+
+        boolean isArray(int term) {
+            return isTerm(term) && (kinds[term] == 'a' || kinds[term] == 'w');
+        }
+
+        boolean isValue(int term) {
+            return isTerm(term) && kinds[term] != 'a' && kinds[term] != 'w';
+        }
+
+        /** The term that is made of the same, or NONE. */
+        int find(char kind, int function, int first, int second, int told) {
+            for (int term = 0; term < count; term++) {
+                boolean sameParts = firsts[term] == first && seconds[term] == second && tolds[term] == told;
+                if (sameParts && kinds[term] == kind && functions[term] == function) return term;
+            }
+            return NONE;
+        }
+
+        int add(char kind, int function, int first, int second, int told) {
+            kinds[count] = kind;
+            functions[count] = function;
+            firsts[count] = first;
+            seconds[count] = second;
+            tolds[count] = told;
+            count++;
+            return count - 1;
+        }
+
+        /** The constant array that an array comes from. */
+        private int origin(int array) {
+            int at = array;
+            for (int step = 0; step < count && kinds[at] == 'w'; step++) at = firsts[at];
+            return at;
+        }
+
+        /** Whether two terms are values of arrays that come from the same constant one. */
+        boolean haveOneOrigin(int term, int other) {
+            if (kinds[term] != 'r' || kinds[other] != 'r') return false;
+            return origin(firsts[term]) == origin(firsts[other]);
+        }
+
+        boolean isOfFunction(int term, int function) {
+            return kinds[term] == 'f' && functions[term] == function;
+        }
+    }
+
+    /** The atoms, the clauses and the rules. */
+    private static final class Statements {
+        static final int NONE = -1;
+        static final int LITERALS = 3;
+        static final int MOST_ATOMS = 24;
+        private static final int MOST_CLAUSES = 14;
+        private static final int MOST_RULES = 4;
+
+        final int[] atomFacts = new int[MOST_ATOMS];
+        final int[] literals = new int[MOST_CLAUSES * LITERALS];
+        final char[] ruleKinds = new char[MOST_RULES];
+        final int[] ruleFunctions = new int[MOST_RULES];
+        int atoms;
+        int clauses;
+        int rules;
+
+        boolean hasAllAtoms() {
+            return atoms >= MOST_ATOMS;
+        }
+
+        boolean hasAllClauses() {
+            return clauses >= MOST_CLAUSES;
+        }
+
+        boolean hasAllRules() {
+            return rules >= MOST_RULES;
+        }
+
+        boolean isLiteral(int literal) {
+            return literal >= 0 && literal < 2 * atoms;
+        }
+
+        int findAtom(int fact) {
+            for (int atom = 0; atom < atoms; atom++) {
+                if (atomFacts[atom] == fact) return atom;
+            }
+            return NONE;
+        }
+
+        int addAtom(int fact) {
+            atomFacts[atoms] = fact;
+            atoms++;
+            return atoms - 1;
+        }
+
+        int addClause(int first, int second, int third) {
+            literals[clauses * LITERALS] = first;
+            literals[clauses * LITERALS + 1] = second;
+            literals[clauses * LITERALS + 2] = third;
+            clauses++;
+            return clauses - 1;
+        }
+
+        int addRule(char kind, int function) {
+            ruleKinds[rules] = kind;
+            ruleFunctions[rules] = function;
+            rules++;
+            return rules;
+        }
+
+        int factOf(int literal) {
+            int fact = atomFacts[literal / 2];
+            return literal % 2 == 0 ? fact : Fact.contrary(fact);
+        }
+
+        /** The set of all clauses, as bits. */
+        int allClauses() {
+            return (1 << clauses) - 1;
+        }
+    }
+
+    /**
+     * What the numbers of the terms have to keep so that an interpretation comes of them: demands, of each of which
+     * at least one fact is true. The first demands are the clauses, in their order.
+     */
+    private static final class Demands {
+        private final Table table;
+        private final Statements statements;
+        int[] facts = new int[128];
+        /** Where the facts of each demand end; they begin where those of the demand before it end. */
+        int[] ends = new int[64];
+        int count;
+        int clauses;
+        private int used;
+
+        Demands(Table table, Statements statements) {
+            this.table = table;
+            this.statements = statements;
+        }
+
+        void build() {
+            count = 0;
+            used = 0;
+            clauses = statements.clauses;
+            for (int clause = 0; clause < statements.clauses; clause++) demandClause(clause);
+            for (int term = 0; term < table.count; term++) {
+                if (table.kinds[term] == 'f') demandFunction(term);
+                if (table.kinds[term] == 'r') demandTold(term);
+                for (int other = 0; other < term; other++) {
+                    if (table.haveOneOrigin(term, other)) demandSameEntry(term, other);
+                }
+            }
+        }
+
+        private void demandClause(int clause) {
+            int from = clause * Statements.LITERALS;
+            for (int at = from; at < from + Statements.LITERALS; at++) {
+                int literal = statements.literals[at];
+                if (literal != Statements.NONE) put(statements.factOf(literal));
+            }
+            close();
+        }
+
+        private void demandFunction(int term) {
+            int function = table.functions[term];
+            for (int other = 0; other < term; other++) {
+                if (table.isOfFunction(other, function)) demandSameForSame(term, other);
+            }
+            for (int rule = 0; rule < statements.rules; rule++) {
+                if (statements.ruleFunctions[rule] != function) continue;
+                char kind = statements.ruleKinds[rule];
+                if (kind == 's') demandUndone(term);
+                for (int other = 0; other < term; other++) {
+                    if (table.isOfFunction(other, function)) demandRule(kind, term, other);
+                }
+            }
+        }
+
+        private void demandSameForSame(int term, int other) {
+            put(Fact.same(term, other));
+            put(Fact.apart(table.firsts[term], table.firsts[other]));
+            if (table.seconds[term] != Table.NONE) put(Fact.apart(table.seconds[term], table.seconds[other]));
+            close();
+        }
+
+        private void demandUndone(int term) {
+            int argument = table.firsts[term];
+            if (!table.isOfFunction(argument, table.functions[term])) return;
+            put(Fact.same(term, table.firsts[argument]));
+            close();
+        }
+
+        private void demandRule(char kind, int term, int other) {
+            int first = table.firsts[term];
+            int otherFirst = table.firsts[other];
+            if (kind == 'i') {
+                put(Fact.same(first, otherFirst));
+                put(Fact.apart(term, other));
+                close();
+            }
+            if (kind == 'c') {
+                put(Fact.same(term, other));
+                put(Fact.apart(first, table.seconds[other]));
+                put(Fact.apart(table.seconds[term], otherFirst));
+                close();
+            }
+            if (kind == 'm') {
+                put(Fact.within(term, other, 0));
+                put(Fact.within(otherFirst, first, 0));
+                close();
+                put(Fact.within(other, term, 0));
+                put(Fact.within(first, otherFirst, 0));
+                close();
+            }
+        }
+
+        /** Demands what is told by the writes that what is read comes by. */
+        private void demandTold(int term) {
+            int array = table.firsts[term];
+            for (int step = 0; step < table.count && table.kinds[array] == 'w'; step++) {
+                put(Fact.same(term, table.tolds[array]));
+                put(Fact.apart(table.seconds[term], table.seconds[array]));
+                putStopped(term, array);
+                close();
+                array = table.firsts[array];
+            }
+        }
+
+        /** Demands that two values are the same that come from one origin for the same index. */
+        private void demandSameEntry(int term, int other) {
+            put(Fact.same(term, other));
+            put(Fact.apart(table.seconds[term], table.seconds[other]));
+            putStopped(term, Table.NONE);
+            putStopped(other, Table.NONE);
+            close();
+        }
+
+        /** Puts that a write on the way from what is read to an array, or to the origin, has the index of the read. */
+        private void putStopped(int term, int until) {
+            int array = table.firsts[term];
+            for (int step = 0; step < table.count && array != until && table.kinds[array] == 'w'; step++) {
+                put(Fact.same(table.seconds[term], table.seconds[array]));
+                array = table.firsts[array];
+            }
+        }
+
+        private void put(int fact) {
+            if (used >= facts.length) facts = Arrays.copyOf(facts, 2 * facts.length);
+            facts[used] = fact;
+            used++;
+        }
+
+        private void close() {
+            if (count >= ends.length) ends = Arrays.copyOf(ends, 2 * ends.length);
+            ends[count] = used;
+            count++;
+        }
+    }
+
+    /**
+     * What is known of the differences of the terms: the least number that each difference is at most, with all that
+     * comes of these, and pairs of terms that are not the same. The number zero is a node behind those of the terms,
+     * which are at least it, so that the least numbers that keep the limits can be told at any time; the pairs are
+     * perhaps not kept by them.
+     */
+    private static final class Differences {
+        private static final int MOST_NODES = Table.MOST + 1;
+        private static final int MOST_PAIRS = MOST_NODES * MOST_NODES;
+        private static final int NO_LIMIT = 1000000;
+
+        int nodes;
+        int zero;
+        final int[] limits = new int[MOST_NODES * MOST_NODES];
+        /** For each pair, 16 times the lower term plus the other one. */
+        final int[] pairs = new int[MOST_PAIRS];
+        int pairCount;
+
+        void clear(int terms) {
+            nodes = terms + 1;
+            zero = terms;
+            pairCount = 0;
+            Arrays.fill(limits, 0, nodes * nodes, NO_LIMIT);
+            for (int node = 0; node < nodes; node++) {
+                limits[zero * nodes + node] = 0;
+                limits[node * nodes + node] = 0;
+            }
+        }
+
+        /** The least number that a term can have. */
+        int leastOf(int term) {
+            return -limits[zero * nodes + term];
+        }
+
+        /** Whether a fact is true for the least numbers, or kept as a pair. */
+        boolean grants(int fact) {
+            int left = Fact.left(fact);
+            int right = Fact.right(fact);
+            if (Fact.isTrueFor(fact, leastOf(left) - leastOf(right))) return true;
+            return Fact.sort(fact) == Fact.APART && isPair(left, right);
+        }
+
+        /** Whether a fact can no longer be true. */
+        boolean denies(int fact) {
+            int left = Fact.left(fact);
+            int right = Fact.right(fact);
+            int there = limits[left * nodes + right];
+            int back = limits[right * nodes + left];
+            int sort = Fact.sort(fact);
+            if (sort == Fact.WITHIN) return back + Fact.most(fact) < 0;
+            if (sort == Fact.SAME) return there < 0 || back < 0 || isPair(left, right);
+            return there <= 0 && back <= 0;
+        }
+
+        /** Adds a fact. Answers whether it can be true. */
+        boolean assume(int fact) {
+            int left = Fact.left(fact);
+            int right = Fact.right(fact);
+            int sort = Fact.sort(fact);
+            if (sort == Fact.WITHIN) return restrict(left, right, Fact.most(fact));
+            if (sort == Fact.APART) return part(left, right);
+            return !isPair(left, right) && restrict(left, right, 0) && restrict(right, left, 0);
+        }
+
+        /** Adds that the left node less the right one is at most a number. Answers whether it can be. */
+        boolean restrict(int left, int right, int most) {
+            if (most >= limits[left * nodes + right]) return true;
+            if (most + limits[right * nodes + left] < 0) return false;
+            for (int from = 0; from < nodes; from++) {
+                int before = limits[from * nodes + left];
+                if (before >= NO_LIMIT) continue;
+                for (int to = 0; to < nodes; to++) {
+                    int after = limits[right * nodes + to];
+                    if (after >= NO_LIMIT) continue;
+                    int sum = before + most + after;
+                    if (sum < limits[from * nodes + to]) limits[from * nodes + to] = sum;
+                }
+            }
+            return true;
+        }
+
+        /** Adds that two terms are not the same. Answers whether it can be. */
+        private boolean part(int left, int right) {
+            if (limits[left * nodes + right] <= 0 && limits[right * nodes + left] <= 0) return false;
+            int pair = left < right ? left * 16 + right : right * 16 + left;
+            for (int at = 0; at < pairCount; at++) {
+                if (pairs[at] == pair) return true;
+            }
+            if (pairCount >= MOST_PAIRS) return true;
+            pairs[pairCount] = pair;
+            pairCount++;
+            return true;
+        }
+
+        private boolean isPair(int left, int right) {
+            int pair = left < right ? left * 16 + right : right * 16 + left;
+            for (int at = 0; at < pairCount; at++) {
+                if (pairs[at] == pair) return true;
+            }
+            return false;
+        }
+    }
+
+    /**
+     * Looks for numbers of the terms that keep the demands. It goes from the least numbers that keep what is known:
+     * if a demand is not kept by them, a fact of it is tried, and then its contrary.
+     */
+    private static final class Search {
+        private static final int CLASH = 0;
+        private static final int CHANGED = 1;
+        private static final int OPEN = 2;
+        private static final int KEPT = 3;
+        private static final int MANY = 1000;
+        private static final int MOST_STEPS = 1000000000;
+
+        private final Table table;
+        private final Demands demands;
+        private final Differences differences = new Differences();
+        /** The numbers of the terms that were found last. */
+        final int[] numbers = new int[Table.MOST];
+        private int[] savedLimits = new int[1024];
+        private int[] savedPairCounts = new int[16];
+        private int[] tried = new int[16];
+        private int depth;
+        private boolean changed;
+        private int fewest;
+        private int nextTry;
+
+        Search(Table table, Demands demands) {
+            this.table = table;
+            this.demands = demands;
+        }
+
+        /** Looks for any numbers that keep some of the clauses, all other demands, and one more fact or NONE. */
+        boolean findAny(int clauses, int fact) {
+            if (!begin(fact)) return false;
+            for (int step = 0; step < MOST_STEPS; step++) {
+                int outcome = look(clauses);
+                if (outcome == KEPT) {
+                    takeNumbers();
+                    return true;
+                }
+                if (outcome == OPEN && !descend()) outcome = CLASH;
+                if (outcome == CLASH && !turnBack()) return false;
+            }
+            return false;
+        }
+
+        /** Makes numbers that keep all demands the least that do so, those of the first terms first. */
+        void findLeast(int clauses) {
+            if (!begin(Fact.NONE)) return;
+            for (int step = 0; step < MOST_STEPS; step++) {
+                int outcome = canBeLess() ? look(clauses) : CLASH;
+                if (outcome == KEPT) takeNumbers();
+                if (outcome == OPEN && !descend()) outcome = CLASH;
+                if ((outcome == CLASH || outcome == KEPT) && !turnBack()) return;
+            }
+        }
+
+        private boolean begin(int fact) {
+            differences.clear(table.count);
+            depth = 0;
+            return fact == Fact.NONE || differences.assume(fact);
+        }
+
+        private void takeNumbers() {
+            for (int term = 0; term < table.count; term++) numbers[term] = differences.leastOf(term);
+        }
+
+        /** Whether numbers below those that were found are left; restricts the terms to them. */
+        private boolean canBeLess() {
+            for (int term = 0; term < table.count; term++) {
+                int least = differences.leastOf(term);
+                if (least > numbers[term]) return false;
+                if (!differences.restrict(term, differences.zero, numbers[term])) return false;
+                if (least < numbers[term]) return true;
+            }
+            return false;
+        }
+
+        /** Goes through what the least numbers do not keep, adds what is sure, and notes what can be tried. */
+        private int look(int clauses) {
+            changed = false;
+            fewest = MANY;
+            if (!partPairs()) return CLASH;
+            for (int demand = 0; demand < demands.count; demand++) {
+                boolean leftOut = demand < demands.clauses && (clauses >> demand & 1) == 0;
+                if (!leftOut && !examine(demand)) return CLASH;
+            }
+            if (changed) return CHANGED;
+            return fewest < MANY ? OPEN : KEPT;
+        }
+
+        /** Looks after the pairs that have the same least number. Answers whether they can be apart. */
+        private boolean partPairs() {
+            int nodes = differences.nodes;
+            for (int at = 0; at < differences.pairCount; at++) {
+                int left = differences.pairs[at] / 16;
+                int right = differences.pairs[at] % 16;
+                if (differences.leastOf(left) != differences.leastOf(right)) continue;
+                if (differences.limits[left * nodes + right] <= 0) {
+                    if (!differences.restrict(left, right, -1)) return false;
+                    changed = true;
+                } else if (differences.limits[right * nodes + left] <= 0) {
+                    if (!differences.restrict(right, left, -1)) return false;
+                    changed = true;
+                } else if (fewest > 2) {
+                    fewest = 2;
+                    nextTry = Fact.within(left, right, -1);
+                }
+            }
+            return true;
+        }
+
+        /** Looks after a demand. Answers whether it can be kept. */
+        private boolean examine(int demand) {
+            int from = demand == 0 ? 0 : demands.ends[demand - 1];
+            int open = 0;
+            int first = Fact.NONE;
+            for (int at = from; at < demands.ends[demand]; at++) {
+                int fact = demands.facts[at];
+                if (differences.grants(fact)) return true;
+                if (differences.denies(fact)) continue;
+                if (open == 0) first = fact;
+                open++;
+            }
+            if (open == 0) return false;
+            if (open == 1) {
+                changed = true;
+                return differences.assume(first);
+            }
+            if (open < fewest) {
+                fewest = open;
+                nextTry = first;
+            }
+            return true;
+        }
+
+        /** Tries a fact, and keeps what was known before. Answers whether it can be true. */
+        private boolean descend() {
+            int size = differences.nodes * differences.nodes;
+            int need = (depth + 1) * size;
+            if (savedLimits.length < need) savedLimits = Arrays.copyOf(savedLimits, 2 * need);
+            if (depth >= tried.length) {
+                tried = Arrays.copyOf(tried, 2 * depth);
+                savedPairCounts = Arrays.copyOf(savedPairCounts, 2 * depth);
+            }
+            System.arraycopy(differences.limits, 0, savedLimits, depth * size, size);
+            savedPairCounts[depth] = differences.pairCount;
+            tried[depth] = nextTry;
+            depth++;
+            return differences.assume(nextTry);
+        }
+
+        /** Goes back to the last fact that was tried, and takes its contrary. Answers whether there was one. */
+        private boolean turnBack() {
+            int size = differences.nodes * differences.nodes;
+            for (int level = depth - 1; level >= 0; level--) {
+                depth = level;
+                System.arraycopy(savedLimits, level * size, differences.limits, 0, size);
+                differences.pairCount = savedPairCounts[level];
+                if (differences.assume(Fact.contrary(tried[level]))) return true;
+            }
+            return false;
+        }
+    }
+
+    /** The answers about what is asserted. They are kept until that changes. */
+    private static final class Answers {
+        static final int GREATEST_BOUND = 400;
+        private static final int NOT_KNOWN = -1;
+
+        private final Table table;
+        private final Statements statements;
+        private final Demands demands;
+        private final Search search;
+        /** The numbers of the terms in an interpretation, and in the model as soon as it has been looked for. */
+        final int[] numbers = new int[Table.MOST];
+        /** The term with the lowest number in the class of each value. */
+        final int[] leaders = new int[Table.MOST];
+        private final int[] groups = new int[Table.MOST];
+        /** The reasons of each literal that were looked for, as bits. */
+        private final int[] reasonsOf = new int[2 * Statements.MOST_ATOMS];
+        private int clausesOfCore = NOT_KNOWN;
+        private boolean hasInterpretation;
+        private boolean knowsInterpretation;
+        private boolean knowsModel;
+        private boolean knowsClasses;
+
+        Answers(Table table, Statements statements) {
+            this.table = table;
+            this.statements = statements;
+            demands = new Demands(table, statements);
+            search = new Search(table, demands);
+        }
+
+        void forget() {
+            knowsInterpretation = false;
+            knowsModel = false;
+            knowsClasses = false;
+        }
+
+        /** Whether what is asserted can be satisfied. */
+        boolean findInterpretation() {
+            if (!knowsInterpretation) {
+                clausesOfCore = NOT_KNOWN;
+                Arrays.fill(reasonsOf, NOT_KNOWN);
+                demands.build();
+                hasInterpretation = search.findAny(statements.allClauses(), Fact.NONE);
+                if (hasInterpretation) takeNumbers();
+                knowsInterpretation = true;
+            }
+            return hasInterpretation;
+        }
+
+        /** Whether there is a model. */
+        boolean findModel() {
+            if (!findInterpretation()) return false;
+            if (!knowsModel) {
+                System.arraycopy(numbers, 0, search.numbers, 0, table.count);
+                search.findLeast(statements.allClauses());
+                takeNumbers();
+                knowsModel = true;
+            }
+            return true;
+        }
+
+        /** Whether some of the clauses, with the rules, cannot be satisfied. */
+        boolean isContrary(int clauses) {
+            return !search.findAny(clauses, Fact.NONE);
+        }
+
+        boolean isImplied(int literal) {
+            if (!findInterpretation() || reasonsOf[literal] != NOT_KNOWN) return true;
+            int denial = Fact.contrary(statements.factOf(literal));
+            if (Fact.isTrueFor(denial, numbers[Fact.left(denial)] - numbers[Fact.right(denial)])) return false;
+            return !search.findAny(statements.allClauses(), denial);
+        }
+
+        /** The reasons of a literal that follows, as bits. */
+        int findReasons(int literal) {
+            if (reasonsOf[literal] == NOT_KNOWN) {
+                reasonsOf[literal] = thinOut(Fact.contrary(statements.factOf(literal)));
+            }
+            return reasonsOf[literal];
+        }
+
+        /** The clauses of the core, as bits. */
+        int findCore() {
+            if (clausesOfCore == NOT_KNOWN) clausesOfCore = thinOut(Fact.NONE);
+            return clausesOfCore;
+        }
+
+        /** The clauses that are not left out if each is left out without which a fact still cannot be true. */
+        private int thinOut(int fact) {
+            int rest = statements.allClauses();
+            for (int clause = 0; clause < statements.clauses; clause++) {
+                int fewer = rest & ~(1 << clause);
+                if (!search.findAny(fewer, fact)) rest = fewer;
+            }
+            return rest;
+        }
+
+        /** The least number that a difference is at most, or a greater one than can be asked for. */
+        int findBound(int first, int second) {
+            int all = statements.allClauses();
+            int high = GREATEST_BOUND;
+            if (search.findAny(all, beyond(first, second, high))) return high + 1;
+            int low = Math.max(numbers[first] - numbers[second], -GREATEST_BOUND);
+            // Ten halvings are enough for all numbers from the least to the greatest.
+            for (int step = 0; step < 16 && low < high; step++) {
+                int middle = Math.floorDiv(low + high, 2);
+                if (search.findAny(all, beyond(first, second, middle))) {
+                    low = Math.max(middle + 1, search.numbers[first] - search.numbers[second]);
+                } else {
+                    high = middle;
+                }
+            }
+            return high;
+        }
+
+        /** That the difference of two terms is more than a number. */
+        private static int beyond(int first, int second, int most) {
+            return Fact.contrary(Fact.within(first, second, most));
+        }
+
+        /** Finds the classes; terms that some interpretation parts are in different groups. */
+        void findClasses() {
+            if (knowsClasses) return;
+            Arrays.fill(groups, 0);
+            partGroups(numbers);
+            for (int term = 0; term < table.count; term++) {
+                leaders[term] = table.isValue(term) ? findLeader(term) : Table.NONE;
+            }
+            knowsClasses = true;
+        }
+
+        private int findLeader(int term) {
+            for (int other = 0; other < term; other++) {
+                if (leaders[other] != other || groups[other] != groups[term]) continue;
+                if (!search.findAny(statements.allClauses(), Fact.apart(other, term))) return other;
+                partGroups(search.numbers);
+            }
+            return term;
+        }
+
+        /** Parts the groups by the numbers of an interpretation; a group bears the number of its last term. */
+        private void partGroups(int[] found) {
+            for (int term = 0; term < table.count; term++) {
+                int group = term;
+                for (int other = term + 1; other < table.count; other++) {
+                    if (groups[other] == groups[term] && found[other] == found[term]) group = other;
+                }
+                groups[term] = group;
+            }
+        }
+
+        private void takeNumbers() {
+            System.arraycopy(search.numbers, 0, numbers, 0, table.count);
+        }
+    }
+
+    /** What terms, functions and arrays have in the model. */
+    private static final class Model {
+        private final Table table;
+        private final Statements statements;
+        private final int[] numbers;
+
+        Model(Table table, Statements statements, int[] numbers) {
+            this.table = table;
+            this.statements = statements;
+            this.numbers = numbers;
+        }
+
+        int ofFunction(int function, int first, int second) {
+            for (int term = 0; term < table.count; term++) {
+                if (!table.isOfFunction(term, function) || numbers[table.firsts[term]] != first) continue;
+                int other = table.seconds[term];
+                if (other == Table.NONE || numbers[other] == second) return numbers[term];
+            }
+            return 0;
+        }
+
+        int ofArray(int array, int at) {
+            int stop = stopOf(array, at);
+            if (table.kinds[stop] == 'w') return numbers[table.tolds[stop]];
+            for (int term = 0; term < table.count; term++) {
+                if (table.kinds[term] != 'r' || numbers[table.seconds[term]] != at) continue;
+                if (stopOf(table.firsts[term], at) == stop) return numbers[term];
+            }
+            return 0;
+        }
+
+        /** The write on the way from an array to its origin that has a number for an index, or else the origin. */
+        private int stopOf(int array, int at) {
+            int stop = array;
+            for (int step = 0; step < table.count && table.kinds[stop] == 'w'; step++) {
+                if (numbers[table.seconds[stop]] == at) return stop;
+                stop = table.firsts[stop];
+            }
+            return stop;
+        }
+
+        boolean makesTrue(int literal) {
+            int fact = statements.factOf(literal);
+            return Fact.isTrueFor(fact, numbers[Fact.left(fact)] - numbers[Fact.right(fact)]);
+        }
+
+        /** How many literals of a clause are true. */
+        int trueIn(int clause) {
+            int count = 0;
+            int from = clause * Statements.LITERALS;
+            for (int at = from; at < from + Statements.LITERALS; at++) {
+                int literal = statements.literals[at];
+                if (literal != Statements.NONE && makesTrue(literal)) count++;
+            }
+            return count;
+        }
+
+        boolean keepsClauses() {
+            for (int clause = 0; clause < statements.clauses; clause++) {
+                if (trueIn(clause) == 0) return false;
+            }
+            return true;
+        }
+
+        /** Whether each value of a function or an array has what the function or the array has. */
+        boolean keepsTerms() {
+            for (int term = 0; term < table.count; term++) {
+                int first = table.firsts[term];
+                int second = table.seconds[term];
+                int has = numbers[term];
+                if (table.kinds[term] == 'f') {
+                    int argument = second == Table.NONE ? Table.NONE : numbers[second];
+                    has = ofFunction(table.functions[term], numbers[first], argument);
+                } else if (table.kinds[term] == 'r') {
+                    has = ofArray(first, numbers[second]);
+                }
+                if (has != numbers[term]) return false;
+            }
+            return true;
+        }
+
+        boolean keepsRules() {
+            for (int rule = 0; rule < statements.rules; rule++) {
+                if (!keepsRule(statements.ruleKinds[rule], statements.ruleFunctions[rule])) return false;
+            }
+            return true;
+        }
+
+        private boolean keepsRule(char kind, int function) {
+            for (int term = 0; term < table.count; term++) {
+                if (!table.isOfFunction(term, function)) continue;
+                if (kind == 's' && !isUndone(term)) return false;
+                for (int other = 0; other < table.count; other++) {
+                    if (table.isOfFunction(other, function) && !keepsFor(kind, term, other)) return false;
+                }
+            }
+            return true;
+        }
+
+        private boolean isUndone(int term) {
+            int argument = table.firsts[term];
+            if (!table.isOfFunction(argument, table.functions[term])) return true;
+            return numbers[term] == numbers[table.firsts[argument]];
+        }
+
+        private boolean keepsFor(char kind, int term, int other) {
+            int first = numbers[table.firsts[term]];
+            int otherFirst = numbers[table.firsts[other]];
+            if (kind == 'i') return first == otherFirst || numbers[term] != numbers[other];
+            if (kind == 'm') return first >= otherFirst || numbers[term] <= numbers[other];
+            if (kind != 'c') return true;
+            boolean exchanged = first == numbers[table.seconds[other]] && numbers[table.seconds[term]] == otherFirst;
+            return !exchanged || numbers[term] == numbers[other];
+        }
+    }
+}
