@@ -153,31 +153,31 @@ public final class Congruary {
 
     public int core() {
         if (answers.findInterpretation()) throw new IllegalStateException();
-        return Integer.bitCount(answers.findCore());
+        return Integer.bitCount(answers.thinOut(Statements.NONE));
     }
 
     public int coreAt(int index) {
         if (answers.findInterpretation()) throw new IllegalStateException();
-        int clauses = answers.findCore();
+        int clauses = answers.thinOut(Statements.NONE);
         if (index < 0 || index >= Integer.bitCount(clauses)) throw new IndexOutOfBoundsException();
         return numberInSet(clauses, index);
     }
 
     public boolean follows(int literal) {
         if (!statements.isLiteral(literal)) throw new NoSuchElementException();
-        return answers.isImplied(literal);
+        return !answers.findInterpretation() || answers.isImplied(literal);
     }
 
     public int reasons(int literal) {
         if (!statements.isLiteral(literal)) throw new NoSuchElementException();
-        if (!answers.isImplied(literal)) throw new IllegalStateException();
-        return Integer.bitCount(answers.findReasons(literal));
+        if (answers.findInterpretation() && !answers.isImplied(literal)) throw new IllegalStateException();
+        return Integer.bitCount(answers.thinOut(literal));
     }
 
     public int reasonAt(int literal, int index) {
         if (!statements.isLiteral(literal)) throw new NoSuchElementException();
-        if (!answers.isImplied(literal)) throw new IllegalStateException();
-        int clauses = answers.findReasons(literal);
+        if (answers.findInterpretation() && !answers.isImplied(literal)) throw new IllegalStateException();
+        int clauses = answers.thinOut(literal);
         if (index < 0 || index >= Integer.bitCount(clauses)) throw new IndexOutOfBoundsException();
         return numberInSet(clauses, index);
     }
@@ -211,32 +211,37 @@ public final class Congruary {
 
     public int valueOf(int term) {
         if (!table.isValue(term)) throw new NoSuchElementException();
-        if (!answers.findModel()) throw new IllegalStateException();
+        if (!answers.findInterpretation()) throw new IllegalStateException();
+        answers.findModel();
         return answers.numbers[term];
     }
 
     public int functionAt(int function, int first, int second) {
         if (function < 0 || function >= FUNCTIONS) throw new IllegalArgumentException();
-        if (!answers.findModel()) throw new IllegalStateException();
+        if (!answers.findInterpretation()) throw new IllegalStateException();
+        answers.findModel();
         return model.ofFunction(function, first, second);
     }
 
     public int entry(int array, int at) {
         if (!table.isArray(array)) throw new NoSuchElementException();
-        if (!answers.findModel()) throw new IllegalStateException();
+        if (!answers.findInterpretation()) throw new IllegalStateException();
+        answers.findModel();
         return model.ofArray(array, at);
     }
 
     public boolean isTrue(int literal) {
         if (!statements.isLiteral(literal)) throw new NoSuchElementException();
-        if (!answers.findModel()) throw new IllegalStateException();
+        if (!answers.findInterpretation()) throw new IllegalStateException();
+        answers.findModel();
         return model.makesTrue(literal);
     }
 
     // ---- figures
 
     public long trueLiterals() {
-        if (!answers.findModel()) throw new IllegalStateException();
+        if (!answers.findInterpretation()) throw new IllegalStateException();
+        answers.findModel();
         long count = 0;
         for (int clause = 0; clause < statements.clauses; clause++) count += model.trueIn(clause);
         return count;
@@ -246,11 +251,12 @@ public final class Congruary {
         if (answers.findInterpretation()) throw new IllegalStateException();
         // Without clauses everything can be satisfied, so that a core means that there are some.
         if (statements.clauses <= 0) return 0;
-        return (float) Integer.bitCount(answers.findCore()) / (float) statements.clauses;
+        return (float) Integer.bitCount(answers.thinOut(Statements.NONE)) / (float) statements.clauses;
     }
 
     public double meanValue() {
-        if (!answers.findModel()) throw new IllegalStateException();
+        if (!answers.findInterpretation()) throw new IllegalStateException();
+        answers.findModel();
         long sum = 0;
         int values = 0;
         for (int term = 0; term < table.count; term++) {
@@ -264,7 +270,7 @@ public final class Congruary {
     }
 
     public boolean isSound() {
-        if (!answers.findInterpretation()) return answers.isContrary(answers.findCore());
+        if (!answers.findInterpretation()) return answers.areContrary(answers.thinOut(Statements.NONE));
         answers.findModel();
         return model.keepsClauses() && model.keepsRules() && model.keepsTerms();
     }
@@ -611,110 +617,185 @@ public final class Congruary {
 
     /**
      * What is known of the differences of the terms: the least number that each difference is at most, with all that
-     * comes of these, and pairs of terms that are not the same. The number zero is a node behind those of the terms,
-     * which are at least it, so that the least numbers that keep the limits can be told at any time; the pairs are
-     * perhaps not kept by them.
+     * comes of these, and which terms are not the same as which. The number zero is a node behind those of the terms,
+     * which are at least it.
      */
     private static final class Differences {
         private static final int MOST_NODES = Table.MOST + 1;
-        private static final int MOST_PAIRS = MOST_NODES * MOST_NODES;
         private static final int NO_LIMIT = 1000000;
 
         int nodes;
         int zero;
-        final int[] limits = new int[MOST_NODES * MOST_NODES];
-        /** For each pair, 16 times the lower term plus the other one. */
-        final int[] pairs = new int[MOST_PAIRS];
-        int pairCount;
+        /** How much of the state is in use. */
+        int size;
+        int causeSize;
+        /** A limit for each row of two nodes, and then for each node the terms that are apart from it, as bits. */
+        final int[] state = new int[MOST_NODES * MOST_NODES + MOST_NODES];
+        /** The tries from which a limit comes, for each row of two nodes, and then those that two terms are apart. */
+        final long[] causes = new long[2 * MOST_NODES * MOST_NODES];
+        /** The tries from which the last clash comes. */
+        long clash;
+        /** Numbers of the terms that keep the limits. */
+        final int[] numbers = new int[MOST_NODES];
 
         void clear(int terms) {
             nodes = terms + 1;
             zero = terms;
-            pairCount = 0;
-            Arrays.fill(limits, 0, nodes * nodes, NO_LIMIT);
+            size = nodes * nodes + nodes;
+            causeSize = 2 * nodes * nodes;
+            Arrays.fill(state, 0, nodes * nodes, NO_LIMIT);
+            Arrays.fill(state, nodes * nodes, size, 0);
+            Arrays.fill(causes, 0, 2 * nodes * nodes, 0L);
             for (int node = 0; node < nodes; node++) {
-                limits[zero * nodes + node] = 0;
-                limits[node * nodes + node] = 0;
+                state[zero * nodes + node] = 0;
+                state[node * nodes + node] = 0;
             }
         }
 
-        /** The least number that a term can have. */
-        int leastOf(int term) {
-            return -limits[zero * nodes + term];
+        int limit(int left, int right) {
+            return state[left * nodes + right];
         }
 
-        /** Whether a fact is true for the least numbers, or kept as a pair. */
+        int apartFrom(int term) {
+            return state[nodes * nodes + term];
+        }
+
+        /**
+         * Makes numbers that keep the limits. The terms up to one have the least numbers that keep them apart from
+         * those that they have to be apart from, the other terms such that no two terms are the same without need.
+         */
+        void chooseNumbers(int lastLow) {
+            numbers[zero] = 0;
+            for (int term = 0; term < zero; term++) {
+                int low = 0;
+                int high = state[term * nodes + zero];
+                for (int other = 0; other < term; other++) {
+                    low = Math.max(low, numbers[other] - state[other * nodes + term]);
+                    high = Math.min(high, numbers[other] + state[term * nodes + other]);
+                }
+                low = Math.max(low, -state[zero * nodes + term]);
+                numbers[term] = chooseNumber(term, low, high, term <= lastLow);
+            }
+        }
+
+        /** A number from low to high for a term. */
+        private int chooseNumber(int term, int low, int high, boolean least) {
+            int takenByAll = 0;
+            int takenByApart = 0;
+            int apart = state[nodes * nodes + term];
+            for (int other = 0; other < term; other++) {
+                int place = numbers[other] - low;
+                if (place < 0 || place > Table.MOST) continue;
+                takenByAll |= 1 << place;
+                if ((apart >> other & 1) != 0) takenByApart |= 1 << place;
+            }
+            int free = low + Integer.numberOfTrailingZeros(~takenByAll);
+            if (!least && free <= high) return free;
+            free = low + Integer.numberOfTrailingZeros(~takenByApart);
+            return free <= high ? free : low;
+        }
+
+        /** Whether a fact is true for the numbers, or terms are known to be apart. */
         boolean grants(int fact) {
             int left = Fact.left(fact);
             int right = Fact.right(fact);
-            if (Fact.isTrueFor(fact, leastOf(left) - leastOf(right))) return true;
-            return Fact.sort(fact) == Fact.APART && isPair(left, right);
+            if (Fact.isTrueFor(fact, numbers[left] - numbers[right])) return true;
+            return Fact.sort(fact) == Fact.APART && areApart(left, right);
         }
 
         /** Whether a fact can no longer be true. */
         boolean denies(int fact) {
             int left = Fact.left(fact);
             int right = Fact.right(fact);
-            int there = limits[left * nodes + right];
-            int back = limits[right * nodes + left];
+            int there = state[left * nodes + right];
+            int back = state[right * nodes + left];
             int sort = Fact.sort(fact);
             if (sort == Fact.WITHIN) return back + Fact.most(fact) < 0;
-            if (sort == Fact.SAME) return there < 0 || back < 0 || isPair(left, right);
+            if (sort == Fact.SAME) return there < 0 || back < 0 || areApart(left, right);
             return there <= 0 && back <= 0;
         }
 
-        /** Adds a fact. Answers whether it can be true. */
-        boolean assume(int fact) {
+        /** The tries from which it comes that a fact can no longer be true. */
+        long whyDenied(int fact) {
+            int there = Fact.left(fact) * nodes + Fact.right(fact);
+            int back = Fact.right(fact) * nodes + Fact.left(fact);
+            int sort = Fact.sort(fact);
+            if (sort == Fact.WITHIN) return causes[back];
+            if (sort == Fact.APART) return causes[there] | causes[back];
+            if (state[there] < 0) return causes[there];
+            return state[back] < 0 ? causes[back] : causes[nodes * nodes + there];
+        }
+
+        long whyLimit(int left, int right) {
+            return causes[left * nodes + right];
+        }
+
+        long whyApart(int left, int right) {
+            return causes[nodes * nodes + left * nodes + right];
+        }
+
+        /** Adds a fact that comes from some tries. Answers whether it can be true. */
+        boolean assume(int fact, long why) {
             int left = Fact.left(fact);
             int right = Fact.right(fact);
             int sort = Fact.sort(fact);
-            if (sort == Fact.WITHIN) return restrict(left, right, Fact.most(fact));
-            if (sort == Fact.APART) return part(left, right);
-            return !isPair(left, right) && restrict(left, right, 0) && restrict(right, left, 0);
+            if (sort == Fact.WITHIN) return restrict(left, right, Fact.most(fact), why);
+            if (sort == Fact.APART) return part(left, right, why);
+            if (areApart(left, right)) {
+                clash = why | whyApart(left, right);
+                return false;
+            }
+            return restrict(left, right, 0, why) && restrict(right, left, 0, why);
         }
 
         /** Adds that the left node less the right one is at most a number. Answers whether it can be. */
-        boolean restrict(int left, int right, int most) {
-            if (most >= limits[left * nodes + right]) return true;
-            if (most + limits[right * nodes + left] < 0) return false;
+        boolean restrict(int left, int right, int most, long why) {
+            if (most >= state[left * nodes + right]) return true;
+            if (most + state[right * nodes + left] < 0) {
+                clash = why | causes[right * nodes + left];
+                return false;
+            }
             for (int from = 0; from < nodes; from++) {
-                int before = limits[from * nodes + left];
+                int before = state[from * nodes + left];
                 if (before >= NO_LIMIT) continue;
+                long whyBefore = why | causes[from * nodes + left];
                 for (int to = 0; to < nodes; to++) {
-                    int after = limits[right * nodes + to];
+                    int after = state[right * nodes + to];
                     if (after >= NO_LIMIT) continue;
                     int sum = before + most + after;
-                    if (sum < limits[from * nodes + to]) limits[from * nodes + to] = sum;
+                    if (sum < state[from * nodes + to]) {
+                        state[from * nodes + to] = sum;
+                        causes[from * nodes + to] = whyBefore | causes[right * nodes + to];
+                    }
                 }
             }
             return true;
         }
 
         /** Adds that two terms are not the same. Answers whether it can be. */
-        private boolean part(int left, int right) {
-            if (limits[left * nodes + right] <= 0 && limits[right * nodes + left] <= 0) return false;
-            int pair = left < right ? left * 16 + right : right * 16 + left;
-            for (int at = 0; at < pairCount; at++) {
-                if (pairs[at] == pair) return true;
+        private boolean part(int left, int right, long why) {
+            int there = left * nodes + right;
+            int back = right * nodes + left;
+            if (state[there] <= 0 && state[back] <= 0) {
+                clash = why | causes[there] | causes[back];
+                return false;
             }
-            if (pairCount >= MOST_PAIRS) return true;
-            pairs[pairCount] = pair;
-            pairCount++;
+            if (areApart(left, right)) return true;
+            state[nodes * nodes + left] |= 1 << right;
+            state[nodes * nodes + right] |= 1 << left;
+            causes[nodes * nodes + there] = why;
+            causes[nodes * nodes + back] = why;
             return true;
         }
 
-        private boolean isPair(int left, int right) {
-            int pair = left < right ? left * 16 + right : right * 16 + left;
-            for (int at = 0; at < pairCount; at++) {
-                if (pairs[at] == pair) return true;
-            }
-            return false;
+        private boolean areApart(int left, int right) {
+            return (state[nodes * nodes + left] >> right & 1) != 0;
         }
     }
 
     /**
-     * Looks for numbers of the terms that keep the demands. It goes from the least numbers that keep what is known:
-     * if a demand is not kept by them, a fact of it is tried, and then its contrary.
+     * Looks for numbers of the terms that keep the demands. It goes from numbers that keep what is known: if a demand
+     * is not kept by them, a fact of it is tried, and then its contrary.
      */
     private static final class Search {
         private static final int CLASH = 0;
@@ -722,6 +803,7 @@ public final class Congruary {
         private static final int OPEN = 2;
         private static final int KEPT = 3;
         private static final int MANY = 1000;
+        private static final int LAST_TOLD = 62;
         private static final int MOST_STEPS = 1000000000;
 
         private final Table table;
@@ -729,8 +811,8 @@ public final class Congruary {
         private final Differences differences = new Differences();
         /** The numbers of the terms that were found last. */
         final int[] numbers = new int[Table.MOST];
-        private int[] savedLimits = new int[1024];
-        private int[] savedPairCounts = new int[16];
+        private int[] savedStates = new int[512];
+        private long[] savedCauses = new long[1024];
         private int[] tried = new int[16];
         private int depth;
         private boolean changed;
@@ -742,13 +824,40 @@ public final class Congruary {
             this.demands = demands;
         }
 
-        /** Looks for any numbers that keep some of the clauses, all other demands, and one more fact or NONE. */
-        boolean findAny(int clauses, int fact) {
-            if (!begin(fact)) return false;
+        /** Looks for numbers that keep some of the clauses, all other demands, and one more fact or NONE. */
+        boolean find(int clauses, int fact) {
+            return begin(fact) && run(clauses, Table.NONE);
+        }
+
+        /**
+         * Looks for numbers that keep all demands and are the found ones for the terms before one, but less for it.
+         */
+        boolean findLess(int clauses, int term) {
+            return beginBelow(term) && run(clauses, term);
+        }
+
+        private boolean begin(int fact) {
+            differences.clear(table.count);
+            return fact == Fact.NONE || differences.assume(fact, 0L);
+        }
+
+        private boolean beginBelow(int last) {
+            differences.clear(table.count);
+            int zero = differences.zero;
+            for (int term = 0; term < last; term++) {
+                if (!differences.restrict(term, zero, numbers[term], 0L)) return false;
+                if (!differences.restrict(zero, term, -numbers[term], 0L)) return false;
+            }
+            return differences.restrict(last, zero, numbers[last] - 1, 0L);
+        }
+
+        private boolean run(int clauses, int lastLow) {
+            depth = 0;
             for (int step = 0; step < MOST_STEPS; step++) {
+                differences.chooseNumbers(lastLow);
                 int outcome = look(clauses);
                 if (outcome == KEPT) {
-                    takeNumbers();
+                    System.arraycopy(differences.numbers, 0, numbers, 0, table.count);
                     return true;
                 }
                 if (outcome == OPEN && !descend()) outcome = CLASH;
@@ -757,43 +866,11 @@ public final class Congruary {
             return false;
         }
 
-        /** Makes numbers that keep all demands the least that do so, those of the first terms first. */
-        void findLeast(int clauses) {
-            if (!begin(Fact.NONE)) return;
-            for (int step = 0; step < MOST_STEPS; step++) {
-                int outcome = canBeLess() ? look(clauses) : CLASH;
-                if (outcome == KEPT) takeNumbers();
-                if (outcome == OPEN && !descend()) outcome = CLASH;
-                if ((outcome == CLASH || outcome == KEPT) && !turnBack()) return;
-            }
-        }
-
-        private boolean begin(int fact) {
-            differences.clear(table.count);
-            depth = 0;
-            return fact == Fact.NONE || differences.assume(fact);
-        }
-
-        private void takeNumbers() {
-            for (int term = 0; term < table.count; term++) numbers[term] = differences.leastOf(term);
-        }
-
-        /** Whether numbers below those that were found are left; restricts the terms to them. */
-        private boolean canBeLess() {
-            for (int term = 0; term < table.count; term++) {
-                int least = differences.leastOf(term);
-                if (least > numbers[term]) return false;
-                if (!differences.restrict(term, differences.zero, numbers[term])) return false;
-                if (least < numbers[term]) return true;
-            }
-            return false;
-        }
-
-        /** Goes through what the least numbers do not keep, adds what is sure, and notes what can be tried. */
+        /** Goes through what the numbers do not keep, adds what is sure, and notes what can be tried. */
         private int look(int clauses) {
             changed = false;
             fewest = MANY;
-            if (!partPairs()) return CLASH;
+            if (!partSame()) return CLASH;
             for (int demand = 0; demand < demands.count; demand++) {
                 boolean leftOut = demand < demands.clauses && (clauses >> demand & 1) == 0;
                 if (!leftOut && !examine(demand)) return CLASH;
@@ -802,25 +879,28 @@ public final class Congruary {
             return fewest < MANY ? OPEN : KEPT;
         }
 
-        /** Looks after the pairs that have the same least number. Answers whether they can be apart. */
-        private boolean partPairs() {
-            int nodes = differences.nodes;
-            for (int at = 0; at < differences.pairCount; at++) {
-                int left = differences.pairs[at] / 16;
-                int right = differences.pairs[at] % 16;
-                if (differences.leastOf(left) != differences.leastOf(right)) continue;
-                if (differences.limits[left * nodes + right] <= 0) {
-                    if (!differences.restrict(left, right, -1)) return false;
-                    changed = true;
-                } else if (differences.limits[right * nodes + left] <= 0) {
-                    if (!differences.restrict(right, left, -1)) return false;
-                    changed = true;
-                } else if (fewest > 2) {
-                    fewest = 2;
-                    nextTry = Fact.within(left, right, -1);
+        /** Looks after terms that have to be apart, but have the same number. Answers whether they can be apart. */
+        private boolean partSame() {
+            for (int left = 0; left < table.count; left++) {
+                int apart = differences.apartFrom(left);
+                for (int right = 0; right < left; right++) {
+                    if ((apart >> right & 1) == 0 || differences.numbers[left] != differences.numbers[right]) continue;
+                    if (!order(left, right) || !order(right, left)) return false;
+                    if (fewest >= MANY && !changed) {
+                        fewest = MANY - 1;
+                        nextTry = Fact.within(left, right, -1);
+                    }
                 }
             }
             return true;
+        }
+
+        /** If a term that has to be apart from another one is at most this, it is less. Answers whether it can be. */
+        private boolean order(int left, int right) {
+            if (differences.limit(left, right) != 0) return true;
+            changed = true;
+            long why = differences.whyApart(left, right) | differences.whyLimit(left, right);
+            return differences.restrict(left, right, -1, why);
         }
 
         /** Looks after a demand. Answers whether it can be kept. */
@@ -828,17 +908,24 @@ public final class Congruary {
             int from = demand == 0 ? 0 : demands.ends[demand - 1];
             int open = 0;
             int first = Fact.NONE;
+            long why = 0;
             for (int at = from; at < demands.ends[demand]; at++) {
                 int fact = demands.facts[at];
                 if (differences.grants(fact)) return true;
-                if (differences.denies(fact)) continue;
-                if (open == 0) first = fact;
-                open++;
+                if (differences.denies(fact)) {
+                    why |= differences.whyDenied(fact);
+                } else {
+                    if (open == 0) first = fact;
+                    open++;
+                }
             }
-            if (open == 0) return false;
+            if (open == 0) {
+                differences.clash = why;
+                return false;
+            }
             if (open == 1) {
                 changed = true;
-                return differences.assume(first);
+                return differences.assume(first, why);
             }
             if (open < fewest) {
                 fewest = open;
@@ -849,28 +936,38 @@ public final class Congruary {
 
         /** Tries a fact, and keeps what was known before. Answers whether it can be true. */
         private boolean descend() {
-            int size = differences.nodes * differences.nodes;
-            int need = (depth + 1) * size;
-            if (savedLimits.length < need) savedLimits = Arrays.copyOf(savedLimits, 2 * need);
-            if (depth >= tried.length) {
-                tried = Arrays.copyOf(tried, 2 * depth);
-                savedPairCounts = Arrays.copyOf(savedPairCounts, 2 * depth);
+            int size = differences.size;
+            int causeSize = differences.causeSize;
+            if (savedStates.length < (depth + 1) * size) {
+                savedStates = Arrays.copyOf(savedStates, 2 * (depth + 1) * size);
             }
-            System.arraycopy(differences.limits, 0, savedLimits, depth * size, size);
-            savedPairCounts[depth] = differences.pairCount;
+            if (savedCauses.length < (depth + 1) * causeSize) {
+                savedCauses = Arrays.copyOf(savedCauses, 2 * (depth + 1) * causeSize);
+            }
+            if (depth >= tried.length) tried = Arrays.copyOf(tried, 2 * depth);
+            System.arraycopy(differences.state, 0, savedStates, depth * size, size);
+            System.arraycopy(differences.causes, 0, savedCauses, depth * causeSize, causeSize);
             tried[depth] = nextTry;
+            long why = 1L << Math.min(depth, LAST_TOLD);
             depth++;
-            return differences.assume(nextTry);
+            return differences.assume(nextTry, why);
         }
 
-        /** Goes back to the last fact that was tried, and takes its contrary. Answers whether there was one. */
+        /**
+         * Goes back to the last try from which the clash comes, and takes its contrary. Answers whether there was
+         * one. All tries behind a far one are told as one, so that these are gone back one by one.
+         */
         private boolean turnBack() {
-            int size = differences.nodes * differences.nodes;
+            int size = differences.size;
+            int causeSize = differences.causeSize;
             for (int level = depth - 1; level >= 0; level--) {
+                long bit = 1L << Math.min(level, LAST_TOLD);
+                if ((differences.clash & bit) == 0) continue;
                 depth = level;
-                System.arraycopy(savedLimits, level * size, differences.limits, 0, size);
-                differences.pairCount = savedPairCounts[level];
-                if (differences.assume(Fact.contrary(tried[level]))) return true;
+                System.arraycopy(savedStates, level * size, differences.state, 0, size);
+                System.arraycopy(savedCauses, level * causeSize, differences.causes, 0, causeSize);
+                long why = level > LAST_TOLD ? differences.clash : differences.clash & ~bit;
+                if (differences.assume(Fact.contrary(tried[level]), why)) return true;
             }
             return false;
         }
@@ -880,6 +977,8 @@ public final class Congruary {
     private static final class Answers {
         static final int GREATEST_BOUND = 400;
         private static final int NOT_KNOWN = -1;
+        /** No term of an interpretation that is found has as great a number. */
+        private static final int MOST_NUMBERS = 1000000;
 
         private final Table table;
         private final Statements statements;
@@ -890,9 +989,8 @@ public final class Congruary {
         /** The term with the lowest number in the class of each value. */
         final int[] leaders = new int[Table.MOST];
         private final int[] groups = new int[Table.MOST];
-        /** The reasons of each literal that were looked for, as bits. */
-        private final int[] reasonsOf = new int[2 * Statements.MOST_ATOMS];
-        private int clausesOfCore = NOT_KNOWN;
+        /** The clauses of the core, and behind them the reasons of each literal, as bits. */
+        private final int[] thinned = new int[1 + 2 * Statements.MOST_ATOMS];
         private boolean hasInterpretation;
         private boolean knowsInterpretation;
         private boolean knowsModel;
@@ -911,64 +1009,54 @@ public final class Congruary {
             knowsClasses = false;
         }
 
-        /** Whether what is asserted can be satisfied. */
+        /** Whether what is asserted can be satisfied. All other answers may be asked for only after this. */
         boolean findInterpretation() {
             if (!knowsInterpretation) {
-                clausesOfCore = NOT_KNOWN;
-                Arrays.fill(reasonsOf, NOT_KNOWN);
+                Arrays.fill(thinned, NOT_KNOWN);
                 demands.build();
-                hasInterpretation = search.findAny(statements.allClauses(), Fact.NONE);
+                hasInterpretation = search.find(statements.allClauses(), Fact.NONE);
                 if (hasInterpretation) takeNumbers();
                 knowsInterpretation = true;
             }
             return hasInterpretation;
         }
 
-        /** Whether there is a model. */
-        boolean findModel() {
-            if (!findInterpretation()) return false;
-            if (!knowsModel) {
-                System.arraycopy(numbers, 0, search.numbers, 0, table.count);
-                search.findLeast(statements.allClauses());
-                takeNumbers();
-                knowsModel = true;
+        /** Makes the numbers of an interpretation those of the model. */
+        void findModel() {
+            if (knowsModel) return;
+            int all = statements.allClauses();
+            System.arraycopy(numbers, 0, search.numbers, 0, table.count);
+            for (int term = 0; term < table.count; term++) {
+                boolean less = table.isValue(term);
+                for (int step = 0; step < MOST_NUMBERS && less; step++) less = search.findLess(all, term);
             }
-            return true;
+            takeNumbers();
+            knowsModel = true;
         }
 
         /** Whether some of the clauses, with the rules, cannot be satisfied. */
-        boolean isContrary(int clauses) {
-            return !search.findAny(clauses, Fact.NONE);
+        boolean areContrary(int clauses) {
+            return !search.find(clauses, Fact.NONE);
         }
 
+        /** Whether a literal follows, if there is an interpretation. */
         boolean isImplied(int literal) {
-            if (!findInterpretation() || reasonsOf[literal] != NOT_KNOWN) return true;
+            if (thinned[literal + 1] != NOT_KNOWN) return true;
             int denial = Fact.contrary(statements.factOf(literal));
             if (Fact.isTrueFor(denial, numbers[Fact.left(denial)] - numbers[Fact.right(denial)])) return false;
-            return !search.findAny(statements.allClauses(), denial);
+            return !search.find(statements.allClauses(), denial);
         }
 
-        /** The reasons of a literal that follows, as bits. */
-        int findReasons(int literal) {
-            if (reasonsOf[literal] == NOT_KNOWN) {
-                reasonsOf[literal] = thinOut(Fact.contrary(statements.factOf(literal)));
-            }
-            return reasonsOf[literal];
-        }
-
-        /** The clauses of the core, as bits. */
-        int findCore() {
-            if (clausesOfCore == NOT_KNOWN) clausesOfCore = thinOut(Fact.NONE);
-            return clausesOfCore;
-        }
-
-        /** The clauses that are not left out if each is left out without which a fact still cannot be true. */
-        private int thinOut(int fact) {
+        /** The reasons of a literal that follows, or the core for NONE, as bits. */
+        int thinOut(int literal) {
+            if (thinned[literal + 1] != NOT_KNOWN) return thinned[literal + 1];
+            int denial = literal == Statements.NONE ? Fact.NONE : Fact.contrary(statements.factOf(literal));
             int rest = statements.allClauses();
             for (int clause = 0; clause < statements.clauses; clause++) {
                 int fewer = rest & ~(1 << clause);
-                if (!search.findAny(fewer, fact)) rest = fewer;
+                if (!search.find(fewer, denial)) rest = fewer;
             }
+            thinned[literal + 1] = rest;
             return rest;
         }
 
@@ -976,12 +1064,12 @@ public final class Congruary {
         int findBound(int first, int second) {
             int all = statements.allClauses();
             int high = GREATEST_BOUND;
-            if (search.findAny(all, beyond(first, second, high))) return high + 1;
+            if (search.find(all, beyond(first, second, high))) return high + 1;
             int low = Math.max(numbers[first] - numbers[second], -GREATEST_BOUND);
             // Ten halvings are enough for all numbers from the least to the greatest.
             for (int step = 0; step < 16 && low < high; step++) {
                 int middle = Math.floorDiv(low + high, 2);
-                if (search.findAny(all, beyond(first, second, middle))) {
+                if (search.find(all, beyond(first, second, middle))) {
                     low = Math.max(middle + 1, search.numbers[first] - search.numbers[second]);
                 } else {
                     high = middle;
@@ -995,24 +1083,20 @@ public final class Congruary {
             return Fact.contrary(Fact.within(first, second, most));
         }
 
-        /** Finds the classes; terms that some interpretation parts are in different groups. */
+        /** Finds the classes. Terms that some interpretation parts are in different groups. */
         void findClasses() {
             if (knowsClasses) return;
             Arrays.fill(groups, 0);
             partGroups(numbers);
             for (int term = 0; term < table.count; term++) {
-                leaders[term] = table.isValue(term) ? findLeader(term) : Table.NONE;
+                leaders[term] = table.isValue(term) ? term : Table.NONE;
+                for (int other = 0; other < term && leaders[term] == term; other++) {
+                    if (leaders[other] != other || groups[other] != groups[term]) continue;
+                    if (search.find(statements.allClauses(), Fact.apart(other, term))) partGroups(search.numbers);
+                    else leaders[term] = other;
+                }
             }
             knowsClasses = true;
-        }
-
-        private int findLeader(int term) {
-            for (int other = 0; other < term; other++) {
-                if (leaders[other] != other || groups[other] != groups[term]) continue;
-                if (!search.findAny(statements.allClauses(), Fact.apart(other, term))) return other;
-                partGroups(search.numbers);
-            }
-            return term;
         }
 
         /** Parts the groups by the numbers of an interpretation; a group bears the number of its last term. */
