@@ -23,19 +23,20 @@ public final class Congruary {
 
     // ---- terms and atoms
 
-    public int constant() {
+    public int constant() throws IllegalStateException {
         if (table.isFull()) throw new IllegalStateException();
         answers.forget();
         return table.add('c', Table.NONE, Table.NONE, Table.NONE, Table.NONE);
     }
 
-    public int array() {
+    public int array() throws IllegalStateException {
         if (table.isFull()) throw new IllegalStateException();
         answers.forget();
         return table.add('a', Table.NONE, Table.NONE, Table.NONE, Table.NONE);
     }
 
-    public int apply(int function, int first, int second) {
+    public int apply(int function, int first, int second)
+            throws IllegalArgumentException, NoSuchElementException, IllegalStateException {
         if (function < 0 || function >= FUNCTIONS) throw new IllegalArgumentException();
         boolean withOne = function < FUNCTIONS_WITH_ONE;
         if (withOne && second != Table.NONE) throw new IllegalArgumentException();
@@ -48,7 +49,7 @@ public final class Congruary {
         return table.add('f', function, first, second, Table.NONE);
     }
 
-    public int read(int array, int index) {
+    public int read(int array, int index) throws NoSuchElementException, IllegalStateException {
         if (!table.isArray(array) || !table.isValue(index)) throw new NoSuchElementException();
         int there = table.find('r', Table.NONE, array, index, Table.NONE);
         if (there != Table.NONE) return there;
@@ -57,7 +58,7 @@ public final class Congruary {
         return table.add('r', Table.NONE, array, index, Table.NONE);
     }
 
-    public int write(int array, int index, int value) {
+    public int write(int array, int index, int value) throws NoSuchElementException, IllegalStateException {
         if (!table.isArray(array)) throw new NoSuchElementException();
         if (!table.isValue(index) || !table.isValue(value)) throw new NoSuchElementException();
         int there = table.find('w', Table.NONE, array, index, value);
@@ -71,12 +72,12 @@ public final class Congruary {
         return table.count;
     }
 
-    public char kindOf(int term) {
+    public char kindOf(int term) throws NoSuchElementException {
         if (!table.isTerm(term)) throw new NoSuchElementException();
         return table.kinds[term];
     }
 
-    public int equal(int first, int second) {
+    public int equal(int first, int second) throws NoSuchElementException, IllegalStateException {
         if (!table.isValue(first) || !table.isValue(second)) throw new NoSuchElementException();
         int fact = Fact.same(first, second);
         int there = statements.findAtom(fact);
@@ -85,7 +86,8 @@ public final class Congruary {
         return statements.addAtom(fact);
     }
 
-    public int atMost(int first, int second, int most) {
+    public int atMost(int first, int second, int most)
+            throws NoSuchElementException, IllegalArgumentException, IllegalStateException {
         if (!table.isValue(first) || !table.isValue(second)) throw new NoSuchElementException();
         if (most < -FARTHEST || most > FARTHEST) throw new IllegalArgumentException();
         int fact = Fact.within(first, second, most);
@@ -101,7 +103,7 @@ public final class Congruary {
 
     // ---- clauses, rules, frames
 
-    public int clause(int first, int second, int third) {
+    public int clause(int first, int second, int third) throws NoSuchElementException, IllegalStateException {
         if (!statements.isLiteral(first)) throw new NoSuchElementException();
         if (second != Statements.NONE && !statements.isLiteral(second)) throw new NoSuchElementException();
         if (third != Statements.NONE && !statements.isLiteral(third)) throw new NoSuchElementException();
@@ -114,7 +116,7 @@ public final class Congruary {
         return statements.clauses;
     }
 
-    public int rule(char kind, int function) {
+    public int rule(char kind, int function) throws IllegalArgumentException, IllegalStateException {
         boolean forOne = kind == 'i' || kind == 's' || kind == 'm';
         if (!forOne && kind != 'c') throw new IllegalArgumentException();
         if (function < 0 || function >= FUNCTIONS) throw new IllegalArgumentException();
@@ -124,7 +126,7 @@ public final class Congruary {
         return statements.addRule(kind, function);
     }
 
-    public int push() {
+    public int push() throws IllegalStateException {
         if (frames >= MOST_FRAMES) throw new IllegalStateException();
         frameTerms[frames] = table.count;
         frameAtoms[frames] = statements.atoms;
@@ -134,7 +136,7 @@ public final class Congruary {
         return frames;
     }
 
-    public int pop() {
+    public int pop() throws IllegalStateException {
         if (frames <= 0) throw new IllegalStateException();
         frames--;
         table.count = frameTerms[frames];
@@ -151,30 +153,31 @@ public final class Congruary {
         return answers.findInterpretation();
     }
 
-    public int core() {
+    public int core() throws IllegalStateException {
         if (answers.findInterpretation()) throw new IllegalStateException();
         return Integer.bitCount(answers.thinOut(Statements.NONE));
     }
 
-    public int coreAt(int index) {
+    public int coreAt(int index) throws IllegalStateException, IndexOutOfBoundsException {
         if (answers.findInterpretation()) throw new IllegalStateException();
         int clauses = answers.thinOut(Statements.NONE);
         if (index < 0 || index >= Integer.bitCount(clauses)) throw new IndexOutOfBoundsException();
         return numberInSet(clauses, index);
     }
 
-    public boolean follows(int literal) {
+    public boolean follows(int literal) throws NoSuchElementException {
         if (!statements.isLiteral(literal)) throw new NoSuchElementException();
         return !answers.findInterpretation() || answers.isImplied(literal);
     }
 
-    public int reasons(int literal) {
+    public int reasons(int literal) throws NoSuchElementException, IllegalStateException {
         if (!statements.isLiteral(literal)) throw new NoSuchElementException();
         if (answers.findInterpretation() && !answers.isImplied(literal)) throw new IllegalStateException();
         return Integer.bitCount(answers.thinOut(literal));
     }
 
-    public int reasonAt(int literal, int index) {
+    public int reasonAt(int literal, int index)
+            throws NoSuchElementException, IllegalStateException, IndexOutOfBoundsException {
         if (!statements.isLiteral(literal)) throw new NoSuchElementException();
         if (answers.findInterpretation() && !answers.isImplied(literal)) throw new IllegalStateException();
         int clauses = answers.thinOut(literal);
@@ -182,7 +185,8 @@ public final class Congruary {
         return numberInSet(clauses, index);
     }
 
-    public int bound(int first, int second) {
+    public int bound(int first, int second)
+            throws NoSuchElementException, IllegalStateException, UnsupportedOperationException {
         if (!table.isValue(first) || !table.isValue(second)) throw new NoSuchElementException();
         if (!answers.findInterpretation()) throw new IllegalStateException();
         int most = answers.findBound(first, second);
@@ -192,14 +196,14 @@ public final class Congruary {
 
     // ---- classes and the model
 
-    public int classOf(int term) {
+    public int classOf(int term) throws NoSuchElementException, IllegalStateException {
         if (!table.isValue(term)) throw new NoSuchElementException();
         if (!answers.findInterpretation()) throw new IllegalStateException();
         answers.findClasses();
         return answers.leaders[term];
     }
 
-    public int classes() {
+    public int classes() throws IllegalStateException {
         if (!answers.findInterpretation()) throw new IllegalStateException();
         answers.findClasses();
         int count = 0;
@@ -209,28 +213,28 @@ public final class Congruary {
         return count;
     }
 
-    public int valueOf(int term) {
+    public int valueOf(int term) throws NoSuchElementException, IllegalStateException {
         if (!table.isValue(term)) throw new NoSuchElementException();
         if (!answers.findInterpretation()) throw new IllegalStateException();
         answers.findModel();
         return answers.numbers[term];
     }
 
-    public int functionAt(int function, int first, int second) {
+    public int functionAt(int function, int first, int second) throws IllegalArgumentException, IllegalStateException {
         if (function < 0 || function >= FUNCTIONS) throw new IllegalArgumentException();
         if (!answers.findInterpretation()) throw new IllegalStateException();
         answers.findModel();
         return model.ofFunction(function, first, second);
     }
 
-    public int entry(int array, int at) {
+    public int entry(int array, int at) throws NoSuchElementException, IllegalStateException {
         if (!table.isArray(array)) throw new NoSuchElementException();
         if (!answers.findInterpretation()) throw new IllegalStateException();
         answers.findModel();
         return model.ofArray(array, at);
     }
 
-    public boolean isTrue(int literal) {
+    public boolean isTrue(int literal) throws NoSuchElementException, IllegalStateException {
         if (!statements.isLiteral(literal)) throw new NoSuchElementException();
         if (!answers.findInterpretation()) throw new IllegalStateException();
         answers.findModel();
@@ -239,7 +243,7 @@ public final class Congruary {
 
     // ---- figures
 
-    public long trueLiterals() {
+    public long trueLiterals() throws IllegalStateException {
         if (!answers.findInterpretation()) throw new IllegalStateException();
         answers.findModel();
         long count = 0;
@@ -247,14 +251,14 @@ public final class Congruary {
         return count;
     }
 
-    public float coreShare() {
+    public float coreShare() throws IllegalStateException {
         if (answers.findInterpretation()) throw new IllegalStateException();
         // Without clauses everything can be satisfied, so that a core means that there are some.
         if (statements.clauses <= 0) return 0;
         return (float) Integer.bitCount(answers.thinOut(Statements.NONE)) / (float) statements.clauses;
     }
 
-    public double meanValue() {
+    public double meanValue() throws IllegalStateException, ArithmeticException {
         if (!answers.findInterpretation()) throw new IllegalStateException();
         answers.findModel();
         long sum = 0;

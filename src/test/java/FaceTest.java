@@ -2,19 +2,46 @@ import java.lang.reflect.Constructor;
 import java.lang.reflect.Field;
 import java.lang.reflect.Method;
 import java.lang.reflect.Modifier;
+import java.util.List;
 import java.util.Set;
 import java.util.TreeSet;
 
 /** The public face is the document's, with nothing else that is not private. */
 public final class FaceTest {
-    private static final Set<String> FACE = Set.of(
-        "int constant()", "int array()", "int apply(int,int,int)", "int read(int,int)", "int write(int,int,int)",
-        "int terms()", "char kindOf(int)", "int equal(int,int)", "int atMost(int,int,int)", "int atoms()",
-        "int clause(int,int,int)", "int clauses()", "int rule(char,int)", "int push()", "int pop()",
-        "boolean check()", "int core()", "int coreAt(int)", "boolean follows(int)", "int reasons(int)",
-        "int reasonAt(int,int)", "int bound(int,int)", "int classOf(int)", "int classes()", "int valueOf(int)",
-        "int functionAt(int,int,int)", "int entry(int,int)", "boolean isTrue(int)", "long trueLiterals()",
-        "float coreShare()", "double meanValue()", "boolean isSound()");
+    private static final String[] FACE = {
+        "int constant() IllegalStateException",
+        "int array() IllegalStateException",
+        "int apply(int,int,int) IllegalArgumentException, NoSuchElementException, IllegalStateException",
+        "int read(int,int) NoSuchElementException, IllegalStateException",
+        "int write(int,int,int) NoSuchElementException, IllegalStateException",
+        "int terms()",
+        "char kindOf(int) NoSuchElementException",
+        "int equal(int,int) NoSuchElementException, IllegalStateException",
+        "int atMost(int,int,int) NoSuchElementException, IllegalArgumentException, IllegalStateException",
+        "int atoms()",
+        "int clause(int,int,int) NoSuchElementException, IllegalStateException",
+        "int clauses()",
+        "int rule(char,int) IllegalArgumentException, IllegalStateException",
+        "int push() IllegalStateException",
+        "int pop() IllegalStateException",
+        "boolean check()",
+        "int core() IllegalStateException",
+        "int coreAt(int) IllegalStateException, IndexOutOfBoundsException",
+        "boolean follows(int) NoSuchElementException",
+        "int reasons(int) NoSuchElementException, IllegalStateException",
+        "int reasonAt(int,int) NoSuchElementException, IllegalStateException, IndexOutOfBoundsException",
+        "int bound(int,int) NoSuchElementException, IllegalStateException, UnsupportedOperationException",
+        "int classOf(int) NoSuchElementException, IllegalStateException",
+        "int classes() IllegalStateException",
+        "int valueOf(int) NoSuchElementException, IllegalStateException",
+        "int functionAt(int,int,int) IllegalArgumentException, IllegalStateException",
+        "int entry(int,int) NoSuchElementException, IllegalStateException",
+        "boolean isTrue(int) NoSuchElementException, IllegalStateException",
+        "long trueLiterals() IllegalStateException",
+        "float coreShare() IllegalStateException",
+        "double meanValue() IllegalStateException, ArithmeticException",
+        "boolean isSound()"
+    };
 
     public static void main(String[] args) {
         Due.is("modifiers", Modifier.toString(Congruary.class.getModifiers()), "public final");
@@ -28,7 +55,7 @@ public final class FaceTest {
                 Due.is(method + " is private", Modifier.isPrivate(method.getModifiers()), true);
             }
         }
-        Due.is("public methods", methods, new TreeSet<>(FACE));
+        Due.is("public methods", methods, new TreeSet<>(List.of(FACE)));
         for (Constructor<?> made : Congruary.class.getDeclaredConstructors()) {
             Due.is("constructor", made.toString(), "public Congruary()");
         }
@@ -45,7 +72,13 @@ public final class FaceTest {
             if (shape.charAt(shape.length() - 1) != '(') shape.append(',');
             shape.append(type);
         }
-        return shape.append(')').toString();
+        shape.append(')');
+        String before = " ";
+        for (Class<?> failure : method.getExceptionTypes()) {
+            shape.append(before).append(failure.getSimpleName());
+            before = ", ";
+        }
+        return shape.toString();
     }
 
     /** Static fields are final constants; no method bears the name of a public one; at most seven parameters. */
