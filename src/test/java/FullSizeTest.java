@@ -21,7 +21,8 @@ public final class FullSizeTest {
         for (int n = next(6); n >= 0; n--) terms.add(new int[] {0, 0, 0, 0, 0});
         if (arrays) terms.add(new int[] {1, 0, 0, 0, 0});
         for (int n = 0; n < 60; n++) {
-            terms.add(new int[] {next(arrays ? 6 : 3) == 0 ? 0 : 2 + next(arrays ? 4 : 1), next(14), next(14), next(14), next(4)});
+            int sort = next(arrays ? 6 : 3) == 0 ? 0 : 2 + next(arrays ? 4 : 1);
+            terms.add(new int[] {sort, next(14), next(14), next(14), next(4)});
         }
         int most = GREATEST[next(4)];
         int equals = next(11);

@@ -285,7 +285,9 @@ final class Oracle {
                 atomsTrue.add(set);
                 if (keepsClauses(set, all)) {
                     if (model == null) model = row.clone();
-                    for (int x : values) for (int y : values) greatest[x][y] = Math.max(greatest[x][y], row[x] - row[y]);
+                    for (int x : values) {
+                        for (int y : values) greatest[x][y] = Math.max(greatest[x][y], row[x] - row[y]);
+                    }
                 }
             }
             int at = n - 1;
