@@ -784,7 +784,7 @@ public final class Congruary {
                 clash = why | causes[there] | causes[back];
                 return false;
             }
-            if (areApart(left, right)) return true;
+            if ((state[nodes * nodes + left] >> right & 1) != 0) return true;
             state[nodes * nodes + left] |= 1 << right;
             state[nodes * nodes + right] |= 1 << left;
             causes[nodes * nodes + there] = why;

@@ -18,13 +18,16 @@ final class Due {
     }
 
     static void fails(String call, Class<? extends RuntimeException> want, Call made) {
-        Object got;
+        is(call, answer(made), want);
+    }
+
+    /** What a call answers, or the class of the exception that it throws. */
+    static Object answer(Call made) {
         try {
-            got = made.make();
+            return made.make();
         } catch (RuntimeException e) {
-            got = e.getClass();
+            return e.getClass();
         }
-        is(call, got, want);
     }
 
     /** Ends the program, with 1 if an answer was not due. */
