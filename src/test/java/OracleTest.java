@@ -23,11 +23,11 @@ public final class OracleTest {
     }
 
     private int term() {
-        return next(20) == 0 ? next(30) - 8 : next(Math.max(1, x.terms()));
+        return next(20) == 0 ? next(30) - 8 : next(Math.max(1, o.terms()));
     }
 
     private int literal() {
-        return next(25) == 0 ? next(60) - 8 : next(Math.max(1, 2 * x.atoms()));
+        return next(25) == 0 ? next(60) - 8 : next(Math.max(1, 2 * o.atoms()));
     }
 
     private int literalOrNone() {
@@ -35,7 +35,7 @@ public final class OracleTest {
     }
 
     private boolean isArray(int t) {
-        return t >= 0 && t < x.terms() && (x.kindOf(t) == 'a' || x.kindOf(t) == 'w');
+        return t >= 0 && t < o.terms() && (o.kindOf(t) == 'a' || o.kindOf(t) == 'w');
     }
 
     private int arrayTerm() {
@@ -52,7 +52,7 @@ public final class OracleTest {
 
     private int values() {
         int count = 0;
-        for (int t = 0; t < x.terms(); t++) if (!isArray(t)) count++;
+        for (int t = 0; t < o.terms(); t++) if (!isArray(t)) count++;
         return count;
     }
 
@@ -145,7 +145,7 @@ public final class OracleTest {
         int calls = 0;
         for (int turn = 0; turn < 12; turn++) {
             for (int n = next(8); n >= 0; n--) {
-                boolean full = values() >= most || x.terms() >= most + 3;
+                boolean full = values() >= most || o.terms() >= most + 3;
                 int from = full ? 5 : 0;
                 String call = CALLS[from + next(FIRST_QUESTION - from)];
                 if (call.equals("pop") && next(3) != 0) call = "clause";

@@ -29,6 +29,10 @@ final class PlainSolver {
         return terms.size();
     }
 
+    int atoms() {
+        return atoms.size();
+    }
+
     void term(char kind, int function, int first, int second, int told) {
         terms.add(new Term(kind, function, first, second, told));
     }
