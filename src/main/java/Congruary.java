@@ -640,7 +640,7 @@ public final class Congruary {
         /** The tries from which the last clash comes. */
         long clash;
         /** Numbers of the terms that keep the limits. */
-        final int[] numbers = new int[MOST_NODES];
+        final int[] numbers = new int[Table.MOST];
 
         void clear(int terms) {
             nodes = terms + 1;
@@ -669,7 +669,6 @@ public final class Congruary {
          * those that they have to be apart from, the other terms such that no two terms are the same without need.
          */
         void chooseNumbers(int lastLow) {
-            numbers[zero] = 0;
             for (int term = 0; term < zero; term++) {
                 int low = 0;
                 int high = state[term * nodes + zero];

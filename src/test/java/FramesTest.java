@@ -239,6 +239,23 @@ public final class FramesTest {
         Due.is("trueLiterals", x.trueLiterals(), 0L);
         Due.is("meanValue", x.meanValue(), 0.0);
         Due.is("isSound", x.isSound(), true);
+        entryAnew();
+    }
+
+    /** What a value told of an array that was taken away is not told any more. */
+    private static void entryAnew() {
+        Congruary x = new Congruary();
+        x.array();
+        x.constant();
+        x.push();
+        x.read(0, 1);
+        x.clause(2 * x.atMost(1, 2, -5), -1, -1);
+        Due.is("entry in the frame", x.entry(0, 0), 5);
+        x.pop();
+        Due.is("entry", x.entry(0, 0), 0);
+        x.array();
+        Due.is("entry of the first", x.entry(0, 0), 0);
+        Due.is("entry of another one", x.entry(2, 0), 0);
     }
 
     /** A pop takes away what came since the last push alone, also if frames were popped and pushed between. */

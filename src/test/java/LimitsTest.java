@@ -446,6 +446,24 @@ public final class LimitsTest {
             Due.is("functionAt 3 0 " + at, y.functionAt(3, 0, at), at == 0 ? 9 : 0);
             Due.is("functionAt 3 " + at, y.functionAt(3, at, 0), at == 0 ? 9 : 0);
         }
+        modelOfAllTerms(far);
+    }
+
+    /** With 14 terms there is none behind the last in which the model could look. */
+    private static void modelOfAllTerms(int[] far) {
+        Congruary x = withTerms(14);
+        for (int at : far) {
+            Due.is("entry " + at + ", nothing is read", x.entry(0, at), 0);
+            Due.is("functionAt 1 " + at + ", nothing is applied", x.functionAt(1, at, -1), 0);
+        }
+        Congruary y = withTerms(13);
+        int last = y.read(0, 12);
+        y.clause(2 * y.atMost(1, last, -3), -1, -1);
+        for (int at : far) Due.is("entry " + at + ", the last is read", y.entry(0, at), at == 0 ? 3 : 0);
+        Congruary z = withTerms(13);
+        last = z.apply(1, 12, -1);
+        z.clause(2 * z.atMost(1, last, -3), -1, -1);
+        for (int at : far) Due.is("functionAt 1 " + at + ", the last", z.functionAt(1, at, -1), at == 0 ? 3 : 0);
     }
 
     private static void indexOfCore() {

@@ -6,6 +6,10 @@ import java.util.NoSuchElementException;
  */
 public final class PlainTest {
     private static final int[] FARTHEST = {0, 1, 2, 3, 20};
+    /** Runs whose answers are wrong if the cause of a clash is told wrong in a place where this hardly ever matters. */
+    private static final int[] RARE = {
+        20004638, 20006228, 20029964, 20039920, 20047670, 20132915, 21004432, 21005761, 21206635, 21207161, 21301970
+    };
 
     private final Both both;
 
@@ -74,16 +78,19 @@ public final class PlainTest {
         else both.atMost(first, second, most);
     }
 
+    private static void look(int seed) {
+        Congruary x = new Congruary();
+        if (seed % 3 == 0) tellAndTakeAway(x, ~seed);
+        PlainTest run = new PlainTest(x, seed);
+        run.tell(80);
+        run.both.compare("run " + seed + ": ");
+    }
+
     public static void main(String[] args) {
         int runs = args.length > 0 ? Integer.parseInt(args[0]) : 1500;
         int from = args.length > 1 ? Integer.parseInt(args[1]) : 0;
-        for (int seed = from; seed < from + runs; seed++) {
-            Congruary x = new Congruary();
-            if (seed % 3 == 0) tellAndTakeAway(x, ~seed);
-            PlainTest run = new PlainTest(x, seed);
-            run.tell(80);
-            run.both.compare("run " + seed + ": ");
-        }
+        for (int seed = from; seed < from + runs; seed++) look(seed);
+        for (int seed : RARE) look(seed);
         Both.end();
     }
 }
